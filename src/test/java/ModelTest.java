@@ -118,7 +118,7 @@ public final class ModelTest {
   }
 
   private static void mixedRuns() {
-    for (int run = 0; run < 1500; run++) {
+    for (int run = 0; run < 400; run++) {
       new Mixed(run).go();
     }
   }

@@ -91,6 +91,7 @@ public final class PointsTest {
     x.points(4);
     check.due("ring of 1, 2, 3", x.ring(Colourings.digits(1, 2, 3)), 1);
     check.due("colours", Colourings.rowsOf(x), "0123 3012 2301 1230");
+    x.colour(0, 0, 3);
     x.colour(2, 2, 4);
     check.due("ring of 1, 2, 1", x.ring(Colourings.digits(1, 2, 1)), 1);
     check.due("a point's own pair is 0 again", Colourings.rowsOf(x), "0121 1012 2101 1210");
@@ -141,7 +142,8 @@ public final class PointsTest {
 
   private static void failsByReversal() {
     check.due("first at (2, 1)", Colourings.rows("011", "102", "110").fails(), 321);
-    check.due("first at (1, 2)", Colourings.rows("012", "201", "120").fails(), 0);
+    check.due("first at (0, 2)", Colourings.rows("011", "101", "210").fails(), 302);
+    check.due("a ring of two directions", Colourings.rows("012", "201", "120").fails(), 0);
     check.due("against the first pair", Colourings.rows("012", "101", "220").fails(), 312);
   }
 
