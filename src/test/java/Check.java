@@ -1,4 +1,5 @@
-import java.util.function.IntSupplier;
+import java.util.function.Supplier;
+import java.util.function.ToLongFunction;
 
 /** Counts what a test looks at, prints every answer that is not due, and ends the run by that. */
 final class Check {
@@ -29,11 +30,14 @@ final class Check {
     }
   }
 
-  /** A refused call answers as told and changes nothing that can be seen. */
-  void refused(ShareTables x, String call, IntSupplier made, long want) {
-    String before = State.of(x);
-    due(call, made.getAsInt(), want);
-    due("the state behind " + call, State.of(x), before);
+  /**
+   * A call that changes nothing: it answers as told, and behind it the object is like another one
+   * on which it was never made. Each time on an object of its own, as 512 calls are soon used up.
+   */
+  void still(Supplier<ShareTables> begin, String call, ToLongFunction<ShareTables> made, long want) {
+    ShareTables x = begin.get();
+    due(call, made.applyAsLong(x), want);
+    due("the state behind " + call, State.of(x), State.of(begin.get()));
   }
 
   void end() {

@@ -1,24 +1,12 @@
-/** Promises 19 and 20: count, trace; and the constants of the face. */
+/** Promises 19 and 20: count, trace. */
 public final class CountTraceTest {
   private static final Check check = new Check("CountTraceTest");
 
   public static void main(String[] args) {
-    constants();
     counts();
     countOfWeights();
-    countRefused();
     traces();
-    traceOfRefusedWorths();
-    traceOfOtherCalls();
-    traceOfManyCalls();
     check.end();
-  }
-
-  private static void constants() {
-    check.due("BAD", ShareTables.BAD, -1);
-    check.due("STATE", ShareTables.STATE, -2);
-    check.due("FULL", ShareTables.FULL, -3);
-    check.due("NONE", ShareTables.NONE, -9);
   }
 
   private static void counts() {
@@ -32,7 +20,7 @@ public final class CountTraceTest {
     check.due("cube: count(1)", cube.count(1), 4);
     check.due("cube: count(2)", cube.count(2), 1);
     check.due("cube: count(3)", cube.count(3), 4);
-    ShareTables uneven = Colourings.uneven();
+    ShareTables uneven = Colourings.rows("0122", "1012", "2101", "2210");
     check.due("uneven: count(0)", uneven.count(0), 4);
     check.due("uneven: count(1)", uneven.count(1), 3);
     check.due("uneven: count(2)", uneven.count(2), 0);
@@ -55,13 +43,6 @@ public final class CountTraceTest {
     check.due("count(3) of none", x.count(3), 0);
   }
 
-  private static void countRefused() {
-    ShareTables x = Colourings.uneven();
-    for (int what : new int[] {-1, 4, 5, Integer.MAX_VALUE, Integer.MIN_VALUE}) {
-      check.refused(x, "count(" + what + ")", () -> x.count(what), -1);
-    }
-  }
-
   private static void traces() {
     ShareTables x = Colourings.cube();
     check.due("at first", x.trace(), 0);
@@ -74,37 +55,5 @@ public final class CountTraceTest {
     x.worth(2, 0);
     check.due("behind worth(2, 0)", x.trace(), 234);
     check.due("asked again", x.trace(), 234);
-  }
-
-  private static void traceOfRefusedWorths() {
-    ShareTables x = Colourings.cube();
-    x.worth(3, 0);
-    x.worth(2, 4);
-    x.worth(-1, 0);
-    check.due("behind three BAD ones", x.trace(), 0);
-    x.colour(0, 0, 1);
-    x.worth(2, 0);
-    check.due("behind one of STATE", x.trace(), 0);
-  }
-
-  private static void traceOfOtherCalls() {
-    ShareTables x = Colourings.cube();
-    x.of(1, 1);
-    x.closed(2, 1);
-    x.closed(0, 2);
-    x.order(2);
-    x.number(1, 1, 2);
-    x.chance(1, 3, 0);
-    x.fuse(31);
-    x.quotient(0);
-    check.due("behind calls that are no worth()", x.trace(), 0);
-  }
-
-  private static void traceOfManyCalls() {
-    ShareTables x = new ShareTables();
-    for (int call = 0; call < 500; call++) {
-      x.worth(2, 0);
-    }
-    check.due("behind 500 worths", x.trace(), 55500);
   }
 }

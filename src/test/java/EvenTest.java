@@ -13,9 +13,6 @@ public final class EvenTest {
     orders();
     worths();
     onePoint();
-    refusedAsBad();
-    refusedAsState();
-    badComesFirst();
     check.end();
   }
 
@@ -147,56 +144,5 @@ public final class EvenTest {
     check.due("one point: closed(0, 2)", x.closed(0, 2), 1);
     check.due("one point: order(0)", x.order(0), 1);
     check.due("one point: worth(2, 0)", x.worth(2, 0), 2);
-  }
-
-  private static void refusedAsBad() {
-    wrongArguments(Colourings.cube());
-  }
-
-  // A number that is not as told is refused as BAD even where nothing is even.
-  private static void badComesFirst() {
-    ShareTables x = Colourings.cube();
-    x.colour(0, 7, 1);
-    check.due("not even", x.count(2), 0);
-    check.due("rank stays", x.count(1), 4);
-    wrongArguments(x);
-  }
-
-  private static void wrongArguments(ShareTables x) {
-    for (int wrong : new int[] {-1, 4, 5, Integer.MAX_VALUE, Integer.MIN_VALUE}) {
-      check.refused(x, "number(" + wrong + ", 0, 0)", () -> x.number(wrong, 0, 0), -1);
-      check.refused(x, "number(0, " + wrong + ", 0)", () -> x.number(0, wrong, 0), -1);
-      check.refused(x, "number(0, 0, " + wrong + ")", () -> x.number(0, 0, wrong), -1);
-      check.refused(x, "of(" + wrong + ", 0)", () -> x.of(wrong, 0), -1);
-      check.refused(x, "of(" + wrong + ", 1)", () -> x.of(wrong, 1), -1);
-      check.refused(x, "of(0, " + wrong + ")", () -> x.of(0, wrong), -1);
-      check.refused(x, "worth(0, " + wrong + ")", () -> x.worth(0, wrong), -1);
-      check.refused(x, "worth(" + wrong + ", 0)", () -> x.worth(wrong, 0), -1);
-      check.refused(x, "closed(1, " + wrong + ")", () -> x.closed(1, wrong), -1);
-    }
-    check.refused(x, "of(0, 2)", () -> x.of(0, 2), -1);
-    check.refused(x, "worth(3, 0)", () -> x.worth(3, 0), -1);
-    check.refused(x, "closed(1, 3)", () -> x.closed(1, 3), -1);
-    for (int set : new int[] {-1, 16, 17, 31, 32, Integer.MAX_VALUE, Integer.MIN_VALUE}) {
-      check.refused(x, "closed(" + set + ", 0)", () -> x.closed(set, 0), -1);
-      check.refused(x, "closed(" + set + ", 1)", () -> x.closed(set, 1), -1);
-      check.refused(x, "order(" + set + ")", () -> x.order(set), -1);
-    }
-  }
-
-  private static void refusedAsState() {
-    ShareTables x = Colourings.uneven();
-    check.refused(x, "number(1, 2, 1)", () -> x.number(1, 2, 1), -2);
-    check.refused(x, "of(1, 0)", () -> x.of(1, 0), -2);
-    check.refused(x, "of(2, 1)", () -> x.of(2, 1), -2);
-    check.refused(x, "turns()", x::turns, -2);
-    check.refused(x, "closed(7, 0)", () -> x.closed(7, 0), -2);
-    check.refused(x, "closed(7, 1)", () -> x.closed(7, 1), -2);
-    check.refused(x, "closed(99, 2)", () -> x.closed(99, 2), -2);
-    check.refused(x, "order(7)", () -> x.order(7), -2);
-    for (int kind = 0; kind < 3; kind++) {
-      int asked = kind;
-      check.refused(x, "worth(" + kind + ", 1)", () -> x.worth(asked, 1), -2);
-    }
   }
 }

@@ -7,20 +7,15 @@ public final class OthersTest {
     fuseByOtherNames();
     fuseThatWouldNotBeEven();
     fuseOfFewColours();
-    fuseRefused();
     quotientsOfCube();
     quotientsOfRings();
     quotientsKeepDirections();
     blocksByTheirLeastPoints();
     quotientsKeepWeights();
-    quotientRefused();
     weights();
-    weightRefused();
     chances();
     chancesByDirections();
     chancesOfAllColours();
-    chanceRefused();
-    chanceWithoutWeights();
     check.end();
   }
 
@@ -68,59 +63,39 @@ public final class OthersTest {
   }
 
   private static void fuseThatWouldNotBeEven() {
-    ShareTables x = Colourings.cube();
-    check.refused(x, "cube: fuse 2 and 3", () -> x.fuse(map(1, 2, 2)), 0);
-    check.refused(x, "cube: no 1", () -> x.fuse(map(2, 2, 2)), 0);
-    check.refused(x, "cube: no 2", () -> x.fuse(map(1, 3, 4)), 0);
-    check.due("cube: number(1, 1, 2) as before", x.number(1, 1, 2), 2);
+    check.still(Colourings::cube, "cube: fuse 2 and 3", x -> x.fuse(map(1, 2, 2)), 0);
+    check.still(Colourings::cube, "cube: no 1", x -> x.fuse(map(2, 2, 2)), 0);
+    check.still(Colourings::cube, "cube: no 2", x -> x.fuse(map(1, 3, 4)), 0);
+    ShareTables cube = Colourings.cube();
+    cube.fuse(map(1, 2, 2));
+    check.due("cube: number(1, 1, 2) as before", cube.number(1, 1, 2), 2);
     ShareTables five = Colourings.ring(1, 2, 3, 4);
-    check.refused(five, "five directions: one way each", () -> five.fuse(map(1, 1, 2, 2)), 0);
-    check.refused(five, "five directions: an uneven reversal", () -> five.fuse(map(1, 1, 1, 2)), 0);
+    check.due("five directions: one way each", five.fuse(map(1, 1, 2, 2)), 0);
+    check.due("five directions: an uneven reversal", five.fuse(map(1, 1, 1, 2)), 0);
     check.due("five directions: of(1, 0) as before", five.of(1, 0), 4);
   }
 
   private static void fuseOfFewColours() {
-    ShareTables one = new ShareTables();
-    check.refused(one, "one point: fuse(0)", () -> one.fuse(0), 1);
-    check.refused(one, "one point: fuse(624)", () -> one.fuse(624), 1);
-    check.refused(one, "one point: fuse(625)", () -> one.fuse(625), -1);
-    check.refused(one, "one point: fuse(-1)", () -> one.fuse(-1), -1);
-    ShareTables cube = Colourings.cube();
-    check.refused(cube, "cube: a digit 0 of colour 4", () -> cube.fuse(map(1, 2, 3, 0)), 1);
-    check.refused(cube, "cube: a digit of colour 4", () -> cube.fuse(map(1, 2, 3, 3)), 1);
-    ShareTables four = new ShareTables();
-    four.points(4);
-    check.refused(four, "fuse(1) of one colour", () -> four.fuse(1), 1);
-    check.refused(four, "fuse(3 behind a 1)", () -> four.fuse(map(1, 0, 3)), 1);
-    check.refused(four, "fuse to 2", () -> four.fuse(2), 0);
-  }
-
-  private static void fuseRefused() {
-    ShareTables cube = Colourings.cube();
-    ShareTables uneven = Colourings.uneven();
-    for (int map : new int[] {-1, 625, 626, Integer.MAX_VALUE, Integer.MIN_VALUE, 0, map(0, 1, 1), map(1, 0, 1)}) {
-      check.refused(cube, "cube: fuse(" + map + ")", () -> cube.fuse(map), -1);
-      check.refused(uneven, "uneven: fuse(" + map + ")", () -> uneven.fuse(map), -1);
-    }
-    check.refused(cube, "cube: a digit 0 of colour 3", () -> cube.fuse(map(1, 1, 0, 1)), -1);
-    check.refused(uneven, "uneven: fuse all", () -> uneven.fuse(map(1, 1, 1, 1)), -2);
-    check.refused(uneven, "uneven: fuse 1 and 2", () -> uneven.fuse(map(1, 1)), -2);
+    check.still(Colourings::cube, "cube: a digit 0 of colour 4", x -> x.fuse(map(1, 2, 3, 0)), 1);
+    check.still(Colourings::cube, "cube: a digit of colour 4", x -> x.fuse(map(1, 2, 3, 3)), 1);
+    check.still(() -> Colourings.alike(4), "fuse(1) of one colour", x -> x.fuse(1), 1);
+    check.still(() -> Colourings.alike(4), "fuse(3 behind a 1)", x -> x.fuse(map(1, 0, 3)), 1);
+    check.still(() -> Colourings.alike(4), "fuse to 2", x -> x.fuse(2), 0);
   }
 
   private static void quotientsOfCube() {
     ShareTables opposite = Colourings.cube();
     check.due("cube: quotient(8)", opposite.quotient(8), 4);
-    check.due("four alike", State.of(opposite), "4 points 0111 1011 1101 1110 rank 2 even 1 fails 0 weights 1 1 1 1 1 trace 0");
+    check.due("four alike", State.plain(opposite), "4 points 0111 1011 1101 1110 rank 2 even 1 fails 0 weights 1 1 1 1 1 trace 0");
     ShareTables halves = Colourings.cube();
     check.due("cube: quotient(5)", halves.quotient(5), 2);
     check.due("two", Colourings.rowsOf(halves), "01 10");
     ShareTables whole = Colourings.cube();
     check.due("cube: quotient(2)", whole.quotient(2), 1);
-    check.due("one", State.of(whole), "1 points 0 rank 1 even 1 fails 0 weights 1 1 1 1 1 trace 0");
+    check.due("one", State.plain(whole), "1 points 0 rank 1 even 1 fails 0 weights 1 1 1 1 1 trace 0");
     check.due("one: quotient(1)", whole.quotient(1), 1);
-    ShareTables same = Colourings.cube();
-    check.refused(same, "cube: quotient(0)", () -> same.quotient(0), 8);
-    check.refused(same, "cube: quotient(1)", () -> same.quotient(1), 8);
+    check.still(Colourings::cube, "cube: quotient(0)", x -> x.quotient(0), 8);
+    check.still(Colourings::cube, "cube: quotient(1)", x -> x.quotient(1), 8);
   }
 
   private static void quotientsOfRings() {
@@ -137,8 +112,7 @@ public final class OthersTest {
   }
 
   private static void quotientsKeepDirections() {
-    ShareTables four = Colourings.ring(1, 2, 3);
-    check.refused(four, "four directions: quotient(1)", () -> four.quotient(1), 4);
+    check.still(() -> Colourings.ring(1, 2, 3), "four directions: quotient(1)", x -> x.quotient(1), 4);
     ShareTables six = Colourings.ring(2, 3, 1, 2, 3);
     check.due("six by its opposite ones: quotient(2)", six.quotient(2), 3);
     check.due("2 becomes 1, 3 becomes 2", Colourings.rowsOf(six), "012 201 120");
@@ -168,22 +142,8 @@ public final class OthersTest {
     x.weight(3, 7);
     x.worth(1, 2);
     x.quotient(8);
-    check.due("weights and trace stay", State.of(x), "4 points 0111 1011 1101 1110 rank 2 even 1 fails 0 weights 2 5 1 7 1 trace 11");
+    check.due("weights and trace stay", State.plain(x), "4 points 0111 1011 1101 1110 rank 2 even 1 fails 0 weights 2 5 1 7 1 trace 11");
     check.due("count(3)", x.count(3), 7);
-  }
-
-  private static void quotientRefused() {
-    ShareTables cube = Colourings.cube();
-    for (int set : new int[] {-1, 16, 17, 32, Integer.MAX_VALUE, Integer.MIN_VALUE}) {
-      check.refused(cube, "cube: quotient(" + set + ")", () -> cube.quotient(set), -1);
-    }
-    ShareTables uneven = Colourings.uneven();
-    check.refused(uneven, "uneven: quotient(8)", () -> uneven.quotient(8), -1);
-    check.refused(uneven, "uneven: quotient(-1)", () -> uneven.quotient(-1), -1);
-    for (int set = 0; set < 8; set++) {
-      int asked = set;
-      check.refused(uneven, "uneven: quotient(" + set + ")", () -> uneven.quotient(asked), -2);
-    }
   }
 
   private static void weights() {
@@ -195,18 +155,6 @@ public final class OthersTest {
       check.due("weight(" + i + ", 0)", x.weight(i, 0), 9 - i);
       check.due("weight(" + i + ", 9)", x.weight(i, 9), 0);
     }
-    ShareTables uneven = Colourings.uneven();
-    check.due("uneven: weight(4, 3)", uneven.weight(4, 3), 1);
-    check.due("uneven: weight(4, 1)", uneven.weight(4, 1), 3);
-  }
-
-  private static void weightRefused() {
-    ShareTables x = Colourings.uneven();
-    for (int wrong : new int[] {-1, 10, 11, Integer.MAX_VALUE, Integer.MIN_VALUE}) {
-      check.refused(x, "weight(0, " + wrong + ")", () -> x.weight(0, wrong), -1);
-      check.refused(x, "weight(" + wrong + ", 0)", () -> x.weight(wrong, 0), -1);
-    }
-    check.refused(x, "weight(5, 1)", () -> x.weight(5, 1), -1);
   }
 
   private static void chance(ShareTables x, int i, int t, long upper, long lower) {
@@ -269,33 +217,5 @@ public final class OthersTest {
       together += (double) x.chance(i, 6, 0) / x.chance(i, 6, 1);
     }
     check.holds("the chances of all colours come to " + together, Math.abs(together - 1) < 1e-9);
-  }
-
-  private static void chanceRefused() {
-    ShareTables cube = Colourings.cube();
-    ShareTables uneven = Colourings.uneven();
-    for (int wrong : new int[] {-1, 7, 8, Integer.MAX_VALUE, Integer.MIN_VALUE}) {
-      check.refused(cube, "cube: chance(0, " + wrong + ", 0)", () -> (int) cube.chance(0, wrong, 0), -1);
-      check.refused(cube, "cube: chance(" + wrong + ", 0, 0)", () -> (int) cube.chance(wrong, 0, 0), -1);
-      check.refused(cube, "cube: chance(0, 0, " + wrong + ")", () -> (int) cube.chance(0, 0, wrong), -1);
-      check.refused(uneven, "uneven: chance(0, " + wrong + ", 1)", () -> (int) uneven.chance(0, wrong, 1), -1);
-    }
-    check.refused(cube, "cube: chance(4, 1, 0)", () -> (int) cube.chance(4, 1, 0), -1);
-    check.refused(cube, "cube: chance(0, 1, 2)", () -> (int) cube.chance(0, 1, 2), -1);
-    check.refused(uneven, "uneven: chance(3, 1, 0)", () -> (int) uneven.chance(3, 1, 0), -1);
-    check.refused(uneven, "uneven: chance(0, 0, 0)", () -> (int) uneven.chance(0, 0, 0), -2);
-    check.refused(uneven, "uneven: chance(2, 6, 1)", () -> (int) uneven.chance(2, 6, 1), -2);
-  }
-
-  private static void chanceWithoutWeights() {
-    ShareTables x = new ShareTables();
-    x.points(4);
-    x.weight(0, 0);
-    x.weight(1, 0);
-    check.refused(x, "no weights: chance(0, 0, 0)", () -> (int) x.chance(0, 0, 0), -2);
-    check.refused(x, "no weights: chance(1, 3, 1)", () -> (int) x.chance(1, 3, 1), -2);
-    check.refused(x, "no weights: chance(2, 3, 1)", () -> (int) x.chance(2, 3, 1), -1);
-    x.ring(Colourings.digits(1, 2, 1));
-    chance(x, 2, 5, 1, 1);
   }
 }

@@ -6,11 +6,8 @@ public final class PointsTest {
     newObject();
     points();
     pointsKeepWeightsAndTrace();
-    pointsRefused();
     colourAndAt();
-    colourRefused();
     ring();
-    ringRefused();
     failsByMisplacedZero();
     failsByMissingColour();
     failsByReversal();
@@ -20,7 +17,7 @@ public final class PointsTest {
   }
 
   private static void newObject() {
-    check.due("a new object", State.of(new ShareTables()), "1 points 0 rank 1 even 1 fails 0 weights 1 1 1 1 1 trace 0");
+    check.due("a new object", State.plain(new ShareTables()), "1 points 0 rank 1 even 1 fails 0 weights 1 1 1 1 1 trace 0");
   }
 
   private static void points() {
@@ -43,14 +40,7 @@ public final class PointsTest {
     x.weight(1, 7);
     x.worth(1, 1);
     x.points(2);
-    check.due("weights and trace stay", State.of(x), "2 points 01 10 rank 2 even 1 fails 0 weights 1 7 1 1 1 trace 11");
-  }
-
-  private static void pointsRefused() {
-    ShareTables x = Colourings.uneven();
-    for (int n : new int[] {0, -1, 9, 100, Integer.MAX_VALUE, Integer.MIN_VALUE}) {
-      check.refused(x, "points(" + n + ")", () -> x.points(n), ShareTables.BAD);
-    }
+    check.due("weights and trace stay", State.plain(x), "2 points 01 10 rank 2 even 1 fails 0 weights 1 7 1 1 1 trace 11");
   }
 
   private static void colourAndAt() {
@@ -71,18 +61,6 @@ public final class PointsTest {
     check.due("colour(7, 7, 4)", corner.colour(7, 7, 4), 0);
     check.due("at(7, 7)", corner.at(7, 7), 4);
     check.due("at(7, 6)", corner.at(7, 6), 1);
-  }
-
-  private static void colourRefused() {
-    ShareTables x = Colourings.uneven();
-    int[][] wrong = {{-1, 0, 1}, {4, 0, 1}, {0, -1, 1}, {0, 4, 1}, {0, 0, -1}, {0, 0, 5},
-        {Integer.MIN_VALUE, 0, 0}, {0, Integer.MAX_VALUE, 0}, {7, 7, 0}};
-    for (int[] w : wrong) {
-      check.refused(x, "colour(" + w[0] + ", " + w[1] + ", " + w[2] + ")", () -> x.colour(w[0], w[1], w[2]), ShareTables.BAD);
-    }
-    for (int[] w : new int[][] {{-1, 0}, {0, -1}, {4, 0}, {0, 4}, {Integer.MAX_VALUE, 0}, {0, Integer.MIN_VALUE}}) {
-      check.refused(x, "at(" + w[0] + ", " + w[1] + ")", () -> x.at(w[0], w[1]), ShareTables.BAD);
-    }
   }
 
   private static void ring() {
@@ -108,20 +86,6 @@ public final class PointsTest {
     check.due("pentagon", x.ring(Colourings.digits(1, 2, 2, 1)), 1);
     check.due("five directions", x.ring(Colourings.digits(1, 2, 3, 4)), 1);
     check.due("fives, not even", x.ring(Colourings.digits(1, 1, 2, 1)), 0);
-  }
-
-  private static void ringRefused() {
-    ShareTables one = new ShareTables();
-    for (int digits : new int[] {-1, 1, 5, Integer.MAX_VALUE, Integer.MIN_VALUE}) {
-      check.refused(one, "ring(" + digits + ") of one point", () -> one.ring(digits), ShareTables.BAD);
-    }
-    ShareTables four = Colourings.uneven();
-    for (int digits : new int[] {-1, 125, 126, 625, Integer.MAX_VALUE, Integer.MIN_VALUE}) {
-      check.refused(four, "ring(" + digits + ") of four", () -> four.ring(digits), ShareTables.BAD);
-    }
-    ShareTables eight = new ShareTables();
-    eight.points(8);
-    check.refused(eight, "ring(78125)", () -> eight.ring(78125), ShareTables.BAD);
   }
 
   private static void failsByMisplacedZero() {

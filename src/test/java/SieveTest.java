@@ -10,9 +10,7 @@ public final class SieveTest {
     failsByRoots();
     failsByMultiplicities();
     limits();
-    sieveRefused();
     many();
-    manyRefused();
     check.end();
   }
 
@@ -83,19 +81,6 @@ public final class SieveTest {
     due(200, 198, 197, 0, 2);
   }
 
-  private static void sieveRefused() {
-    ShareTables y = Colourings.uneven();
-    int[][] wrong = {{2, 1, 0, 0}, {2, 0, 0, 0}, {1, 1, 0, 0}, {0, 0, 0, 0}, {-5, 1, 0, 0}, {201, 10, 0, 0},
-        {10, 0, 0, 0}, {10, -1, 0, 0}, {10, 9, 0, 0}, {10, 3, -1, 1}, {10, 3, 3, 1}, {10, 3, 0, -1}, {10, 3, 0, 4},
-        {Integer.MAX_VALUE, 3, 0, 1}, {Integer.MIN_VALUE, 3, 0, 1}, {10, Integer.MAX_VALUE, 0, 1},
-        {10, Integer.MIN_VALUE, 0, 1}, {10, 3, Integer.MIN_VALUE, 1}, {10, 3, 0, Integer.MAX_VALUE}};
-    for (int[] w : wrong) {
-      String call = "sieve(" + w[0] + ", " + w[1] + ", " + w[2] + ", " + w[3] + ")";
-      check.refused(y, call, () -> y.sieve(w[0], w[1], w[2], w[3]), -1);
-    }
-    check.refused(y, "sieve(10, 3, 0, 1) beside an uneven colouring", () -> y.sieve(10, 3, 0, 1), 0);
-  }
-
   private static void many() {
     int[] due = {0, 0, 1, 1, 2, 0, 2, 2, 3};
     for (int n = 2; n <= 10; n++) {
@@ -103,13 +88,5 @@ public final class SieveTest {
     }
     check.due("many(16)", x.many(16), 5);
     check.due("many(40)", x.many(40), 7);
-  }
-
-  private static void manyRefused() {
-    ShareTables y = Colourings.uneven();
-    for (int n : new int[] {1, 0, -1, 41, 200, Integer.MAX_VALUE, Integer.MIN_VALUE}) {
-      check.refused(y, "many(" + n + ")", () -> y.many(n), -1);
-    }
-    check.refused(y, "many(9) beside an uneven colouring", () -> y.many(9), 2);
   }
 }

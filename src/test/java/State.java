@@ -1,9 +1,14 @@
-/** All of an object that can be seen, as a text. */
+/** All of an object that can be seen, as a text; it takes some 290 calls at most. */
 final class State {
   private State() {
   }
 
   static String of(ShareTables x) {
+    String seen = plain(x);
+    return x.count(2) == 1 ? seen + numbers(x) : seen;
+  }
+
+  static String plain(ShareTables x) {
     StringBuilder text = new StringBuilder();
     int n = x.count(0);
     text.append(n).append(" points");
@@ -23,6 +28,23 @@ final class State {
       text.append(' ').append(v);
     }
     text.append(" trace ").append(x.trace());
+    return text.toString();
+  }
+
+  // Kept apart from the colours they may be wrong while those are right.
+  private static String numbers(ShareTables x) {
+    StringBuilder text = new StringBuilder();
+    int rank = x.count(1);
+    for (int i = 0; i < rank; i++) {
+      text.append(" reverse ").append(x.of(i, 0)).append(" degree ").append(x.of(i, 1)).append(" numbers ");
+      for (int jk = 0; jk < rank * rank; jk++) {
+        text.append(x.number(i, jk / rank, jk % rank));
+      }
+    }
+    text.append(" closed sets ").append(x.closed(0, 2));
+    for (int set = 0; set < 1 << rank; set++) {
+      text.append(' ').append(x.closed(set, 1));
+    }
     return text.toString();
   }
 }
