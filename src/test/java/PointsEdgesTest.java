@@ -34,6 +34,7 @@ public final class PointsEdgesTest {
     noColourAtRankIsMissed();
     failsByReversalAtFirstAndLastPair();
     failsByCountsAtFirstAndLastPair();
+    failsByCountsOfTheLastColoursAlone();
     failsByTheFirstReason();
     check.end();
   }
@@ -438,6 +439,14 @@ public final class PointsEdgesTest {
       x.colour(7, a, 3);
     }
     check.due("last of eight: fails()", x.fails(), 477);
+  }
+
+  // Promise 6: "for some COLOURS i, j there are not as many": be it that only the last ones are not.
+  private static void failsByCountsOfTheLastColoursAlone() {
+    check.due("2 and 3 alone: fails()",
+        Colourings.rows("012233", "102233", "220122", "221022", "332201", "332210").fails(), 420);
+    check.due("3 and 4 alone: fails()", Colourings.rows("01223333", "10223333", "22013333", "22103333",
+        "44440122", "44441022", "44442201", "44442210").fails(), 444);
   }
 
   // Promise 6: "A COLOURING FAILS by the first of these": each reason stands before the next, though its pair
