@@ -1,8 +1,12 @@
 import java.io.IOException;
+import java.lang.reflect.Field;
+import java.lang.reflect.Modifier;
 import java.nio.file.Files;
 import java.nio.file.Path;
 import java.util.ArrayList;
 import java.util.List;
+import java.util.TreeMap;
+import java.util.TreeSet;
 import java.util.regex.Matcher;
 import java.util.regex.Pattern;
 
@@ -19,7 +23,8 @@ public final class LanguageTest {
     onlyPlainLibrary(code);
     methods(code);
     madeInConstructorsOnly(code);
-    check.due("classes inside, counted", code.split(" class ", -1).length - 2 <= 12 ? 1 : 0, 1);
+    classesAndFields();
+    new Calls(code).areShallow();
     check.end();
   }
 
@@ -47,6 +52,31 @@ public final class LanguageTest {
       boolean own = code.contains("class " + owner + " ");
       check.holds("another's " + used.group(), math || own);
     }
+  }
+
+  private static void classesAndFields() {
+    List<Class<?>> classes = new ArrayList<>();
+    classes.add(ShareTables.class);
+    for (int at = 0; at < classes.size(); at++) {
+      classes.addAll(List.of(classes.get(at).getDeclaredClasses()));
+    }
+    check.holds("there are " + classes.size() + " classes", classes.size() > 1 && classes.size() <= 12);
+    for (Class<?> one : classes) {
+      check.holds(one + " is not static", one == ShareTables.class || Modifier.isStatic(one.getModifiers()));
+      fields(one);
+    }
+  }
+
+  private static void fields(Class<?> one) {
+    List<String> allowed = List.of("int", "long", "boolean", "char", "java.lang.String", "[I", "[J", "[C", "[B");
+    int own = 0;
+    for (Field field : one.getDeclaredFields()) {
+      boolean shared = Modifier.isStatic(field.getModifiers());
+      own += shared ? 0 : 1;
+      check.holds(field + " is static, not final", !shared || Modifier.isFinal(field.getModifiers()));
+      check.holds(field + " is static of a type not allowed", !shared || allowed.contains(field.getType().getName()));
+    }
+    check.holds(one + " has " + own + " fields", own <= 20);
   }
 
   private static void methods(String code) {
@@ -84,6 +114,49 @@ public final class LanguageTest {
     while (head.find()) {
       boolean constructor = head.group(2) == null;
       check.holds(head.group(3) + " makes an object", constructor || !body(code, head.end()).contains("new "));
+    }
+  }
+
+  /** Which method calls which, by their names alone: two of one name are taken for one, so nothing is missed. */
+  private static final class Calls {
+    private final TreeMap<String, TreeSet<String>> called = new TreeMap<>();
+
+    Calls(String code) {
+      Matcher head = HEAD.matcher(code);
+      while (head.find()) {
+        called.computeIfAbsent(head.group(3), name -> new TreeSet<>()).addAll(callsIn(body(code, head.end())));
+      }
+    }
+
+    private static List<String> callsIn(String body) {
+      List<String> names = new ArrayList<>();
+      Matcher call = Pattern.compile("\\b(\\w+)\\(").matcher(body);
+      while (call.find()) {
+        names.add(call.group(1));
+      }
+      return names;
+    }
+
+    void areShallow() {
+      int deepest = 0;
+      for (String name : called.keySet()) {
+        deepest = Math.max(deepest, depth(name, new ArrayList<>()));
+      }
+      check.holds("calls go " + deepest + " deep", deepest > 3 && deepest <= 8);
+    }
+
+    private int depth(String name, List<String> open) {
+      if (open.contains(name)) {
+        check.holds(name + " calls itself, by " + open, false);
+        return 0;
+      }
+      open.add(name);
+      int below = 0;
+      for (String next : called.get(name)) {
+        below = Math.max(below, called.containsKey(next) ? depth(next, open) : 0);
+      }
+      open.remove(open.size() - 1);
+      return below + 1;
     }
   }
 }
